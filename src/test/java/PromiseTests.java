@@ -739,6 +739,16 @@ public final class PromiseTests {
         around.view(30, 45);
         flownBy(around, 988, 7, 1, 988);
         flownBy(around, 987, 7, NONE, NONE);
+        WingLooks cut = new WingLooks();
+        cut.wind(8, -7);
+        cut.base(2, 5);
+        cut.close(2, 2, 6, 4);
+        cut.view(2, 7);
+        cut.view(5, 6);
+        cut.view(1, 0);
+        // Two FLIGHTS would take 190 here, since more is cut off from the WIND's part.
+        flownBy(cut, 1000, 7, 1, 191);
+        flownBy(cut, 190, 7, 2, 190);
         WingLooks ten = new WingLooks();
         ten.base(0, 0);
         for (int i = 0; i < 10; i++) {

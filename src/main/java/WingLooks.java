@@ -525,7 +525,8 @@ public final class WingLooks {
 
     /** CLOSED places and the WIND. */
     private static final class Air {
-        private static final int ABOVE_ALL_COSTS = 1024;
+        /** No way is longer than from corner to corner, which takes 849. */
+        private static final int HIGHEST_BIT_OF_A_WAY = 512;
 
         private final int[] left = new int[MOST_CLOSED];
         private final int[] bottom = new int[MOST_CLOSED];
@@ -560,7 +561,7 @@ public final class WingLooks {
             if (x1 == x2 && y1 == y2) {
                 return true;
             }
-            // Neither side of the box parts the two, so only the LEG's own line still can: with all corners on one side.
+            // No edge of the place parts the two, so only the LEG's own line still can, with all corners on one side.
             int a = turn(x1, y1, x2, y2, left[place], bottom[place]);
             int b = turn(x1, y1, x2, y2, right[place], bottom[place]);
             int c = turn(x1, y1, x2, y2, right[place], top[place]);
@@ -576,17 +577,14 @@ public final class WingLooks {
 
         /** The least whole number whose square is the given one at least. */
         private static int rootUp(int square) {
-            int low = 0;
-            int high = ABOVE_ALL_COSTS;
-            while (low < high) {
-                int half = (low + high) / 2;
-                if (half * half >= square) {
-                    high = half;
-                } else {
-                    low = half + 1;
+            int below = 0;
+            for (int bit = HIGHEST_BIT_OF_A_WAY; bit > 0; bit /= 2) {
+                int more = below + bit;
+                if (more * more < square) {
+                    below = more;
                 }
             }
-            return low;
+            return square > 0 ? below + 1 : 0;
         }
     }
 
@@ -755,12 +753,16 @@ public final class WingLooks {
         private int bestSplit(int set) {
             int lowest = set & -set;
             int others = set & ~lowest;
+            int choices = 1 << Integer.bitCount(others);
             int best = UNFLOWN;
-            for (int more = others; more >= 0; more = more == 0 ? -1 : (more - 1) & others) {
+            int more = 0;
+            for (int choice = 0; choice < choices; choice++) {
                 int cost = rounds[lowest | more];
                 if (cost <= craft.battery) {
                     best = Math.min(best, TRIP + cost + splits[others & ~more]);
                 }
+                // Goes to the next subset of the others, as a count in their bits alone does.
+                more = (more - others) & others;
             }
             return best;
         }
@@ -877,7 +879,7 @@ public final class WingLooks {
             return many;
         }
 
-        /** worth[j] is the best of all first places so far against the first j others; before is worth[j - 1] of old. */
+        /** worth[j] is the best of all places so far against the first j others; before is worth[j - 1] of old. */
         private void addPlace(int at, int others, int tolerance) {
             int before = worth[0];
             for (int j = 1; j <= others; j++) {

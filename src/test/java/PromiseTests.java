@@ -10,7 +10,8 @@ import java.util.List;
 /** Each promise of the document by itself: ordinary inputs, edges, wrong inputs, and the order of refusals. */
 public final class PromiseTests {
     private static final int UNKNOWN = -1, BAD = -2, STATE = -3, FULL = -4, NONE = -9;
-    private static final int[] WILD = {Integer.MIN_VALUE, Integer.MIN_VALUE + 1, -1001, -61, -10, -1, Integer.MAX_VALUE};
+    private static final int[] WILD =
+        {Integer.MIN_VALUE, Integer.MIN_VALUE + 1, -1001, -61, -10, -1, Integer.MAX_VALUE};
     private static int wrong = 0;
     private static int checked = 0;
 
@@ -1033,6 +1034,8 @@ public final class PromiseTests {
         int[] high = new int[20];
         Arrays.fill(high, 1000);
         matchIs(low, high, 1000, 20, 20000);
+        matchIs(new int[40], new int[] {}, 1000, 0, 0);
+        matchIs(new int[39], new int[] {9}, 1000, 1, 9);
         WingLooks w = twoYears(new int[] {10, 20}, new int[] {10, 20});
         w.wipe(0);
         due("a wiped MARK is in no pair", 1, w.match(0, 3, 7, 1000, false));

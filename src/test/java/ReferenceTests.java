@@ -8,12 +8,16 @@ public final class ReferenceTests {
     private static final int UNKNOWN = -1, BAD = -2, STATE = -3, FULL = -4, NONE = -9;
     private static final int RUNS = 1500;
     private static final int CALLS = 200;
+    private static final int LARGE_RUNS = 10;
     private static int wrong = 0;
     private static int checked = 0;
 
     public static void main(String[] args) {
         for (int run = 0; run < RUNS && wrong < 20; run++) {
             new Run(run).go();
+        }
+        for (int run = 0; run < LARGE_RUNS; run++) {
+            new Run(RUNS + run).flyMany();
         }
         System.out.println("ReferenceTests: " + checked + " answers compared, " + wrong + " not as due");
         if (wrong != 0) {
@@ -59,6 +63,31 @@ public final class ReferenceTests {
         void go() {
             for (int call = 0; call < CALLS; call++) {
                 one();
+            }
+        }
+
+        /** The largest sets that the model can still go through. */
+        void flyMany() {
+            int wind = random.nextInt(19) - 9;
+            m.wind(wind, -wind / 2);
+            w.wind(wind, -wind / 2);
+            for (int i = 0; i < 8; i++) {
+                int x = coordinate();
+                int y = coordinate();
+                due(number, "view", m.view(x, y), w.view(x, y));
+                if (i % 4 == 0) {
+                    int middle = offset + window / 2;
+                    due(number, "base", m.base(middle, middle + i / 4), w.base(middle, middle + i / 4));
+                    due(number, "close", m.close(x, y, x + 2, y + 1), w.close(x, y, x + 2, y + 1));
+                }
+            }
+            int all = (1 << m.views.size()) - 1;
+            routed(all);
+            int whole = m.round(all);
+            for (int percent = 100; percent >= 40 && whole > 0; percent -= 12) {
+                int battery = Math.max(1, whole * percent / 100);
+                due(number, "store", m.store(0, battery), w.store(0, battery));
+                flown(all);
             }
         }
 
@@ -162,7 +191,9 @@ public final class ReferenceTests {
             switch (random.nextInt(13)) {
                 case 0:
                     if (random.nextInt(6) != 0) {
-                        due(number, "close", m.close(a, b, a + below(9), b + below(9)), w.close(a, b, m.lastX, m.lastY));
+                        int right = a + below(9);
+                        int top = b + below(9);
+                        due(number, "close", m.close(a, b, right, top), w.close(a, b, right, top));
                     } else {
                         due(number, "close", m.close(a, b, c, d), w.close(a, b, c, d));
                     }
@@ -299,8 +330,6 @@ public final class ReferenceTests {
         int[] base = {0, 0};
         int battery = 1000;
         int hover = 0;
-        int lastX;
-        int lastY;
         /** The best row of VIEWS that the last search found, and what it takes. */
         private int[] bestRow;
         private int bestCost;
@@ -488,8 +517,6 @@ public final class ReferenceTests {
         }
 
         int close(int x1, int y1, int x2, int y2) {
-            lastX = x2;
-            lastY = y2;
             if (!point(x1, y1) || !point(x2, y2)) {
                 return BAD;
             }

@@ -643,7 +643,6 @@ public final class WingLooks {
                 }
             }
             routedSet = set;
-            splitSet = 0;
         }
 
         private void measureLegs(int stops) {

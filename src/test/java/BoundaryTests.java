@@ -28,6 +28,7 @@ public final class BoundaryTests {
     public static void main(String[] args) {
         nothingIsThere();
         atFirst();
+        pointsGoFromNoughtToSixty();
         panelsAreTwelve();
         pointsOfAPanelAreUnlike();
         viewsAreTen();
@@ -139,6 +140,40 @@ public final class BoundaryTests {
     }
 
     // ---- what is looked at
+
+    private static void pointsGoFromNoughtToSixty() {
+        says("POINTS are x, y, 0 .. 60 each");
+        for (int x = 0; x <= 60; x += 60) {
+            for (int y = 0; y <= 60; y += 60) {
+                WingLooks w = flatPanel();
+                due("panel from " + x + ", " + y, 1, w.panel(x, y, 30, 0));
+                due("panel to " + x + ", " + y, 2, w.panel(30, 0, x, y));
+                due("view", 0, w.view(x, y));
+                due("seen", 0, w.seen(x, y, 0));
+                due("base", 0, w.base(x, y));
+                due("base is there", 100 * x + y, w.base(0, 0));
+                due("leg from " + x + ", " + y, 425, w.leg(x, y, 30, 30));
+                due("leg to " + x + ", " + y, 425, w.leg(30, 30, x, y));
+                due("log", 0, w.log(x, y, 0));
+                int[] beyond = {x == 0 ? -1 : 61, y == 0 ? -1 : 61};
+                due("panel from beyond x", BAD, w.panel(beyond[0], y, 30, 0));
+                due("panel to beyond y", BAD, w.panel(30, 0, x, beyond[1]));
+                due("view beyond x", BAD, w.view(beyond[0], y));
+                due("seen beyond y", BAD, w.seen(x, beyond[1], 0));
+                due("base beyond x", BAD, w.base(beyond[0], y));
+                due("leg from beyond y", BAD, w.leg(x, beyond[1], 30, 30));
+                due("leg to beyond x", BAD, w.leg(30, 30, beyond[0], y));
+                due("log beyond y", BAD, w.log(x, beyond[1], 0));
+            }
+        }
+        WingLooks w = new WingLooks();
+        due("close from 0, 0", 1, w.close(0, 0, 1, 1));
+        due("close to 60, 60", 2, w.close(59, 59, 60, 60));
+        due("close from beyond x", BAD, w.close(-1, 0, 1, 1));
+        due("close from beyond y", BAD, w.close(0, -1, 1, 1));
+        due("close to beyond x", BAD, w.close(59, 59, 61, 60));
+        due("close to beyond y", BAD, w.close(59, 59, 60, 61));
+    }
 
     private static void panelsAreTwelve() {
         says("PANELS 0, 1, .. (12 at most)");

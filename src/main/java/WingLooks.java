@@ -502,7 +502,7 @@ public final class WingLooks {
 
         /** Without PANELS more than any k, since each set COVERS then. */
         int leastTimes(int set) {
-            int least = Integer.MAX_VALUE;
+            int least = MOST_VIEWS;
             for (int panel = 0; panel < panels; panel++) {
                 least = Math.min(least, Integer.bitCount(watchers[panel] & set));
             }
@@ -713,10 +713,10 @@ public final class WingLooks {
             return stop;
         }
 
-        /** The first of like cheap ones: so the whole ROUND is the first by VIEWS. */
+        /** The first of like cheap ones: so the whole ROUND is the first by VIEWS. There must be one below FAR. */
         private int nextView(int stop, int left) {
             int best = 0;
-            int least = Integer.MAX_VALUE;
+            int least = FAR;
             for (int next = 0; next < MOST_VIEWS; next++) {
                 if (has(left, next) && costBy(stop, left, next) < least) {
                     best = next;
